@@ -224,6 +224,14 @@ public final class PromisesTest {
         fault(0, "chapters 1 1;", 1, 0);
         fault(0, "chapte 1 1;", 1, 0);
         fault(0, "lampchapter 1 1;", 1, 0);
+        fault(0, "lampz 3;", 1, 0);
+        fault(0, "lampa 3;", 1, 0);
+        fault(0, "damp 3;", 1, 0);
+        fault(0, "lame 3;", 1, 0);
+        fault(0, "lamp`3;", 1, 4);
+        fault(0, "lamp{3;", 1, 4);
+        fault(0, "lamp /3;", 1, 5);
+        fault(0, "lamp 3:", 1, 6);
         fault(0, "Lamp 3;", 1, 0);
         fault(0, "lAmp 3;", 1, 0);
         fault(0, "3;", 1, 0);
@@ -435,6 +443,8 @@ public final class PromisesTest {
         due("9 at most", y.state(0, 0, 1, 15), 9);
         due("2 more", y.state(0, 0, 2, 10), 7);
         due("9 at most again", y.state(0, 0, 4, 10), 9);
+        OneReader skips = withYear("chapter 1 0;chapter 1 0;chapter 1 0;", "skip 0;skip 2;");
+        due("skipped ones", skips.state(0, 0, 2, 2), 5);
         due("known for 2 days", y.state(0, 0, 8, 100), 2);
         due("told once more", y.state(0, 0, 9, 100), 0);
         due("known still", y.state(0, 0, 11, 100), 2);
@@ -515,6 +525,14 @@ public final class PromisesTest {
         // a pie of the wrong TOPIC first would do as well: the first row by numbers
         OneReader w = of("chapter 1 0;chapter 1 1;chapter 1 2;leans 2 1;likes 0 0;likes 1 1;likes 2 0;");
         due("first row", w.bait(0, 2, 1, 0), 2);
+        String dull = "likes 0 0;likes 1 0;likes 2 0;likes 3 0;likes 4 0;";
+        String four = "chapter 1 3;chapter 1 2;chapter 1 1;chapter 1 0;leans 3 2;leans 3 1;leans 3 0;";
+        due("four topics", of(four + dull).bait(0, 3, 1, NONE), 4);
+        for (int k = 0; k < 4; k++) {
+            due("four topics, pie " + k, of(four + dull).bait(0, 3, 1, k), k);
+        }
+        String five = four + "chapter 1 4;leans 4 3;";
+        due("five topics are one too many", of(five + dull).bait(0, 4, 1, NONE), NONE);
     }
 
     // 12
@@ -635,6 +653,11 @@ public final class PromisesTest {
         OneReader w = withLog(times(6, "person 1;"), "");
         due("everything", w.fits(0, 0, 0), 60);
         due("the last of all", w.fits(0, 0, 69), 59);
+        OneReader one = withLog(SMALL, "knows 0;knows 1;not 2;");
+        due("but one", one.fits(0, 0, 0), 1);
+        due("but one, ask", one.fits(0, 0, 2), 0);
+        due("but one, who", one.fits(0, 0, 1), 0);
+        due("but one, it", one.fits(0, 0, 10), 1);
         due("ask, all alike", w.fits(0, 0, 2), 0);
         OneReader v = withLog("", "");
         due("nobody", v.fits(0, 0, 0), 0);
@@ -704,6 +727,7 @@ public final class PromisesTest {
         due("rows of a ladder", w.shelf(0, 5), 1);
         due("shelf with what is not liked", w.shelf(0, 4), 2);
         due("of several the least", of("chapter 1 0;chapter 1 0;chapter 1 0;chapter 1 0;leans 2 1;leans 3 0;").shelf(0, 2), 0);
+        due("not the first", of("chapter 1 0;chapter 1 0;chapter 1 0;chapter 1 0;leans 2 1;leans 3 1;").shelf(0, 2), 1);
         // two that would fit in one day lean on one that does not
         due("shelf by what leans", of("chapter 2 0;chapter 6 0;chapter 4 0;leans 1 0;leans 2 1;").shelf(0, 4), 3);
         due("shelf without", of("chapter 2 0;chapter 6 0;chapter 4 0;").shelf(0, 4), 2);
@@ -860,6 +884,10 @@ public final class PromisesTest {
         due("it never dies", x.rumour(1, 0, NONE), NONE);
         due("rumour of library 2", x.rumour(2, 0, 0), -2);
         due("it dies by one", of("person 1;").rumour(0, 0, NONE), 1);
+        String late = "person 4;person 2;person 3;person 4;person 4;person 7;hears 0 1;hears 1 0;hears 1 3;hears 1 5;hears 2 1;hears 2 3;hears 3 1;hears 3 4;hears 3 5;hears 4 0;hears 4 1;hears 4 5;hears 5 1;";
+        due("it dies by 99", of(late).rumour(0, 5, NONE), 99);
+        String later = "person 4;person 2;person 8;person 4;person 4;person 7;hears 0 1;hears 1 0;hears 1 3;hears 1 5;hears 2 1;hears 2 3;hears 3 1;hears 3 4;hears 3 5;hears 4 1;hears 4 5;hears 5 1;hears 5 3;";
+        due("it would die by 100", of(later).rumour(0, 5, NONE), NONE);
     }
 
     // 29
@@ -870,6 +898,8 @@ public final class PromisesTest {
             due("between " + a[0] + " " + a[1], x.between(0, a[0], a[1]), a[2]);
         }
         due("between of library 2", x.between(2, 0, 0), NONE);
+        due("between with nobody, the one", x.between(0, 0, FAR), NONE);
+        due("between with nobody, the other", x.between(0, LOW, 0), NONE);
         OneReader y = of(times(6, "person 1;") + "hears 1 0;hears 2 1;hears 3 2;hears 4 3;hears 5 4;");
         due("the longest way", y.between(0, 0, 5), 5);
     }
@@ -948,6 +978,8 @@ public final class PromisesTest {
                 + "hears 1 2;hears 0 2;hears 1 3;hears 0 3;", "read 0;read 1;tell 0 3;tell 1 2;day;");
         due("gossip of several the least", w.after(0, 0, 2), 0);
         due("bored at last", w.after(0, 0, 4), 1);
+        OneReader v = withYear("chapter 1 0;chapter 1 3;likes 0 1;likes 3 1;likes 5 0;", "read 1;read 0;pie 0;pie 3;pie 5;");
+        due("bored by several", v.after(0, 0, 4), 41);
     }
 
     // 34
@@ -961,6 +993,8 @@ public final class PromisesTest {
         due("odds as -2 of fits", x.odds(1, 0, 0, false), NONE);
         due("odds in library 2", x.odds(2, 0, 0, false), NONE);
         due("odds of log 1", x.odds(0, 1, 0, true), NONE);
+        OneReader y = withLog(SMALL, "knows 0;not 0;");
+        due("odds of what does not fit", y.odds(0, 0, 0, false), NONE);
         due("odds of nothing", withLog(SMALL, "knows 0;not 0;").odds(0, 0, 0, true), NONE);
         due("odds of ten", withLog(SMALL, "knows 0;").odds(0, 0, 2, false), 4);
         due("odds of ten, under", withLog(SMALL, "knows 0;").odds(0, 0, 2, true), 5);
@@ -971,6 +1005,8 @@ public final class PromisesTest {
         OneReader x = small();
         due("least", x.ago(0, 0, false), 0);
         due("most", x.ago(0, 0, true), 1);
+        due("most is 0", withLog(SMALL, "knows 0;not 1;").ago(0, 0, true), 0);
+        due("least is 1", withLog(SMALL, "knows 0;knows 1;not 2;").ago(0, 0, false), 1);
         due("ago as -2 of fits", x.ago(1, 0, false), NONE);
         due("ago in library 2", x.ago(2, 0, true), NONE);
         due("ago of log 1", x.ago(0, 1, true), NONE);
