@@ -95,6 +95,9 @@ public final class OneReader {
     }
 
     public int text(int sort, int at) {
+        // the tape is taken whatever comes of it; only the reading stays away behind -2
+        int length = told.length;
+        told.length = 0;
         told.faultFound = 0;
         told.faultPlace = NONE;
         if (!isWithin(sort, 0, SORTS - 1)) {
@@ -105,8 +108,7 @@ public final class OneReader {
         if (!isWithin(place, 0, last)) {
             return NO_SUCH;
         }
-        parser.parse(sort, told.tape, told.length);
-        told.length = 0;
+        parser.parse(sort, told.tape, length);
         told.faultFound = parser.faultFound;
         told.faultPlace = parser.faultPlace;
         if (told.faultFound != 0) {

@@ -145,6 +145,11 @@ final class Model {
     int text(int sort, int at) {
         fault = 0;
         place = NONE;
+        byte[] bytes = new byte[tape.size()];
+        for (int i = 0; i < bytes.length; i++) {
+            bytes[i] = tape.get(i);
+        }
+        tape = new ArrayList<>();
         if (sort < 0 || sort > 2) {
             return -2;
         }
@@ -152,11 +157,6 @@ final class Model {
         if (at == NONE ? rows.size() == 2 : at < 0 || at >= rows.size()) {
             return -2;
         }
-        byte[] bytes = new byte[tape.size()];
-        for (int i = 0; i < bytes.length; i++) {
-            bytes[i] = tape.get(i);
-        }
-        tape = new ArrayList<>();
         List<List<Integer>> lines = new ArrayList<>();
         List<String> words = new ArrayList<>();
         int found = firstBreak(new String(bytes, StandardCharsets.ISO_8859_1), sort, words, lines);

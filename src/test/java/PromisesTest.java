@@ -171,9 +171,11 @@ public final class PromisesTest {
         OneReader x = small();
         due("taken", x.end(1), NONE);
         due("third library", Telling.tell(x, 0, NONE, "lamp 1;"), -2);
-        due("no text is read", x.end(7), 7);
+        due("taken by as many as may be, too", x.end(1), NONE);
+        due("no text is read", x.count(0), 2);
         due("fault of no text", x.fault(0), 0);
-        due("it is there still", x.text(0, 1), 1);
+        due("place of no text", x.fault(1), NONE);
+        due("second library", Telling.tell(x, 0, 1, "lamp 1;"), 1);
         due("in the place of one", x.library(1, 2), 1);
         due("all of it", x.library(1, 0), 0);
         due("the other one", x.library(0, 2), 5);
@@ -205,6 +207,24 @@ public final class PromisesTest {
         due("topic", y.library(0, 20), 5);
         due("hours", y.library(0, 11), 1);
         due("hears ahead of its person", y.library(0, 61), 1);
+        refusedTexts();
+    }
+
+    /** The tape is taken by every text(), by one that reads none too. */
+    private static void refusedTexts() {
+        int[][] refused = {{0, 0}, {1, 0}, {2, 0}, {0, 2}, {0, -2}, {1, LOW}, {2, FAR}, {3, NONE}, {-1, NONE}, {FAR, 0}};
+        for (int[] asked : refused) {
+            OneReader x = new OneReader();
+            String told = "text(" + asked[0] + ", " + asked[1] + ")";
+            // a text with a FAULT, which is not seen as it is not read
+            Telling.tape(x, "lamp 0;");
+            due(told, x.text(asked[0], asked[1]), -2);
+            due("fault of " + told, x.fault(0), 0);
+            due("place of " + told, x.fault(1), NONE);
+            due("tape behind " + told, x.feed(0x6c616d70, 0x20333b20, 0x20202020, 0x20202020, 0x20202020), 20);
+            due("text behind " + told, x.text(0, NONE), 0);
+            due("lamp behind " + told, x.library(0, 2), 3);
+        }
     }
 
     private static void fault(int sort, String text, int fault, int place) {
