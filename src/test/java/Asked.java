@@ -62,12 +62,13 @@ final class Asked {
     Asked asks(String... rows) {
         for (String row : rows) {
             String[] sides = row.split(" = ");
-            Sentence.due(sides[0], answer(sides[0].trim().split(" +")), word(sides[1].trim()));
+            Sentence.due(sides[0], answer(sides[0]), word(sides[1].trim()));
         }
         return this;
     }
 
-    private String answer(String[] words) {
+    String answer(String call) {
+        String[] words = call.trim().split(" +");
         called(1);
         Method m = FACE.get(words[0]);
         Class<?>[] kinds = m.getParameterTypes();

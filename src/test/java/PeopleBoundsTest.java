@@ -3,6 +3,8 @@ public final class PeopleBoundsTest {
     private static final int NONE = -1;
     /** Each hears the one ahead, and forgets at once. */
     private static final String ROW = "person 1;".repeat(6) + "hears 1 0;hears 2 1;hears 3 2;hears 4 3;hears 5 4;";
+    /** Each hears the one behind. */
+    private static final String BACK = "person 1;".repeat(6) + "hears 0 1;hears 1 2;hears 2 3;hears 3 4;hears 4 5;";
     private static final String DEAF = "person 9;".repeat(6);
     private static final String RING = "person 1;".repeat(6) + "hears 1 0;hears 2 1;hears 3 2;hears 4 3;hears 5 4;hears 0 5;";
 
@@ -43,7 +45,7 @@ public final class PeopleBoundsTest {
         // he HEARS whom: not the other way round
         Asked.on("person 1;person 1;hears 0 1;").asks("news 0 0 9 = 1", "news 0 1 0 = 2", "news 0 1 1 = 3");
         Sentence.says("NEWS (bits). NONE: another n, or there is none such (of either).");
-        row.asks("news 0 6 0 = N", "news 0 -1 0 = N", "news 0 MAX 0 = N", "news 0 MIN 0 = N", "news 1 0 0 = N", "news -1 0 0 = N");
+        row.asks("news 0 6 0 = N", "news 0 -1 0 = N", "news 0 MAX 0 = N", "news 0 MIN 0 = N", "news 0 32 0 = N", "news 1 0 0 = N", "news -1 0 0 = N");
         Asked.on("").asks("news 0 0 0 = N");
         Asked.on("person 1;").asks("news 0 0 9 = 1", "news 0 1 0 = N");
         new Asked().asks("news 0 0 0 = N");
@@ -125,6 +127,8 @@ public final class PeopleBoundsTest {
         Asked.on(ROW).log("knows 0;").asks("fits 0 0 1 = 0");
         Asked.on(ROW).log("knows 5;not 4;").asks("fits 0 0 1 = 5");
         Asked.on(ROW).log("knows 1;not 2;").asks("fits 0 0 1 = N", "fits 0 0 0 = 2");
+        Asked.on(BACK).log("knows 5;knows 1;not 0;").asks("fits 0 0 0 = 1", "fits 0 0 10 = 54", "fits 0 0 1 = 5");
+        Asked.on(BACK).log("knows 4;knows 0;not 5;").asks("fits 0 0 0 = 6", "fits 0 0 10 = 44", "fits 0 0 15 = 49", "fits 0 0 1 = 4");
         Asked.on(ROW).log("knows 0;not 0;").asks("fits 0 0 1 = N");
         Asked.on("person 1;").log("").asks("fits 0 0 1 = 0");
         Asked.on("person 1;person 1;").log("").asks("fits 0 0 1 = N");
@@ -143,11 +147,15 @@ public final class PeopleBoundsTest {
         Asked.on(ROW).log("knows 0;knows 5;").asks("fits 0 0 2 = 0");
         Asked.on(ROW).log("knows 0;not 5;").asks("fits 0 0 2 = 2");
         Asked.on(ROW).log("knows 2;not 3;").asks("fits 0 0 2 = 0");
+        // one alone FITS: nobody parts it
+        Asked.on(ROW).log("knows 0;not 1;").asks("fits 0 0 0 = 1", "fits 0 0 2 = 0");
         Asked.on("person 1;person 1;person 1;hears 1 0;hears 2 0;").log("not 0;").asks("fits 0 0 2 = 1");
         Asked.on("person 1;person 1;person 1;person 1;").log("not 0;not 1;").asks("fits 0 0 2 = 2");
     }
 
     private static void fitsAnswers() {
+        Sentence.says("What 0: how many FIT, 1: SURE (NONE: not one), 2: ASK (NONE: nothing FITS), ");
+        Asked.on("person 1;person 1;").log("").log("knows 1;").asks("fits 0 0 0 = 20", "fits 0 0 1 = N", "fits 0 0 2 = 0", "fits 0 1 0 = 10", "fits 0 1 1 = 1", "fits 0 1 2 = 0");
         Sentence.says("10 + k: the k-th. -2: a PERSON that was told of is not there, there is none such (of any), or for another what.");
         Asked x = Asked.on("person 1;person 1;").log("knows 1;not 0;");
         x.asks("fits 0 0 0 = 10", "fits 0 0 1 = 1", "fits 0 0 2 = 0", "fits 0 0 3 = -2", "fits 0 0 9 = -2", "fits 0 0 -1 = -2", "fits 0 0 MAX = -2", "fits 0 0 MIN = -2", "fits 0 0 19 = 19",
@@ -181,9 +189,12 @@ public final class PeopleBoundsTest {
         oddsAre(Asked.on(DEAF).log("not 3;"), 3, 0, 1);
         oddsAre(Asked.on(DEAF).log("not 3;"), 0, 1, 5);
         oddsAre(Asked.on("person 1;").log(""), 0, 1, 1);
+        oddsAre(Asked.on(ROW).log("knows 0;not 1;"), 0, 1, 1);
+        oddsAre(Asked.on(ROW).log("knows 0;not 1;"), 5, 0, 1);
         Sentence.says("NONE: nothing FITS, as -2 of fits(), or there is none such (of any).");
         oddsAre(row, 6, NONE, NONE);
         oddsAre(row, -1, NONE, NONE);
+        oddsAre(row, 32, NONE, NONE);
         oddsAre(row, Integer.MAX_VALUE, NONE, NONE);
         oddsAre(row, Integer.MIN_VALUE, NONE, NONE);
         oddsAre(Asked.on(ROW).log("knows 0;not 0;"), 0, NONE, NONE);
@@ -249,7 +260,7 @@ public final class PeopleBoundsTest {
         String later = "person 4;person 2;person 8;person 4;person 4;person 7;hears 0 1;hears 1 0;hears 1 3;hears 1 5;hears 2 1;hears 2 3;hears 3 1;hears 3 4;hears 3 5;hears 4 1;hears 4 5;hears 5 1;hears 5 3;";
         Asked.on(later).asks("rumour 0 5 N = N");
         Sentence.says("RUMOUR (bits), or (n NONE) DIES (NONE: somebody KNOWS it behind 99 days). -2: another n, or there is none such (of either).");
-        Asked.on("person 1;").asks("rumour 0 0 20 = 0", "rumour 0 0 21 = -2", "rumour 0 0 -2 = -2", "rumour 0 0 MAX = -2", "rumour 0 0 MIN = -2", "rumour 0 1 0 = -2", "rumour 0 1 N = -2", "rumour 0 -1 0 = -2",
+        Asked.on("person 1;").asks("rumour 0 0 20 = 0", "rumour 0 0 21 = -2", "rumour 0 0 -2 = -2", "rumour 0 0 MAX = -2", "rumour 0 0 MIN = -2", "rumour 0 1 0 = -2", "rumour 0 1 N = -2", "rumour 0 32 0 = -2", "rumour 0 -1 0 = -2",
                 "rumour 0 -1 N = -2", "rumour 1 0 0 = -2", "rumour 1 0 N = -2", "rumour -1 0 N = -2", "rumour MAX MIN 0 = -2");
         Asked.on("").asks("rumour 0 0 0 = -2", "rumour 0 0 N = -2");
         new Asked().asks("rumour 0 0 0 = -2", "rumour 0 0 N = -2");
@@ -269,6 +280,7 @@ public final class PeopleBoundsTest {
         Asked.on(RING + "hears 5 0;").asks("between 0 0 5 = 1", "between 0 0 4 = 4", "between 0 5 4 = 5");
         Sentence.says("BETWEEN. NONE: never, or there is none such (of any).");
         row.asks("between 0 1 0 = N", "between 0 6 0 = N", "between 0 0 6 = N", "between 0 6 6 = N", "between 0 -1 0 = N", "between 0 0 -1 = N", "between 0 -1 -1 = N", "between 0 MAX MAX = N", "between 0 MIN MIN = N",
+                "between 0 32 0 = N", "between 0 0 32 = N", "between 0 32 32 = N", "between 0 -32 0 = N",
                 "between 1 0 0 = N", "between -1 0 0 = N");
         Asked.on("").asks("between 0 0 0 = N");
         Asked.on("person 1;").asks("between 0 0 0 = 0", "between 0 0 1 = N", "between 0 1 1 = N");
@@ -332,6 +344,7 @@ public final class PeopleBoundsTest {
         loss(Asked.on(""), 0, NONE, NONE);
         loss(row, 6, NONE, NONE);
         loss(row, -1, NONE, NONE);
+        loss(row, 32, NONE, NONE);
         loss(row, Integer.MAX_VALUE, NONE, NONE);
         loss(row, Integer.MIN_VALUE, NONE, NONE);
         loss(new Asked(), 0, NONE, NONE);

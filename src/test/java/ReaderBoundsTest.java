@@ -8,17 +8,22 @@ public final class ReaderBoundsTest {
         himselfDays();
         himselfTies();
         himselfStops();
+        himselfAsTold();
         himselfAnswers();
         baitFewest();
         baitRows();
         baitAnswers();
         order();
+        orderAnswers();
         orderTies();
         game();
+        gameAnswers();
         gameFirst();
+        coldsEnds();
         coldsLikely();
         coldsAnswers();
         finish();
+        finishAgain();
         dull();
         under();
         keystone();
@@ -108,6 +113,15 @@ public final class ReaderBoundsTest {
         row(Asked.on("chapter 9 0;chapter 1 1;leans 1 0;lamp 9;"), "himself 0 0");
     }
 
+    private static void himselfAsTold() {
+        Sentence.says("3. (Of a LIBRARY as told.)");
+        // whatever was done in a YEAR
+        Asked x = Asked.on(hours(2, 2, 2) + "likes 0 2;person 1;").year("read 1;skip 0;pie 0;pie 0;tell 1 0;cold;");
+        x.x.drawn(0, 1, 60, 1);
+        x.asks("till 0 0 = 6", "state 0 0 6 10 = 5", "himself 0 1 N = 2", "himself 0 1 0 = 0", "himself 0 1 1 = 1", "bait 0 2 1 N = 1", "order 0 2 true = 1", "game 0 2 true = 0", "news 0 0 0 = 1",
+                "himself 0 1 N = 2", "library 0 40 = 2", "state 0 0 6 10 = 5");
+    }
+
     private static void himselfAnswers() {
         Sentence.says("HIMSELF, n days: how many (k NONE), or the k-th. NONE: not so many, another n, or there is none such.");
         new Asked().asks("himself 0 1 N = N", "himself 0 1 0 = N");
@@ -153,8 +167,11 @@ public final class ReaderBoundsTest {
     }
 
     private static void baitAnswers() {
+        Sentence.says("BAIT of a CHAPTER, n days: how many pies (k NONE), or the TOPIC of the k-th.");
+        row(Asked.on("chapter 1 4;chapter 1 1;leans 1 0;likes 4 0;likes 1 0;"), "bait 0 1 20", 1, 4);
+        row(Asked.on("chapter 1 4;chapter 1 1;leans 1 0;likes 4 0;likes 1 0;"), "bait 0 0 20", 4);
         Sentence.says("NONE: not by 4, not so many, another n, or there is none such (of either).");
-        Asked.on(hours(1)).asks("bait 0 0 1 N = 0", "bait 0 0 1 0 = N", "bait 0 1 1 N = N", "bait 0 -1 1 N = N", "bait 0 MAX 1 N = N", "bait 0 MIN 1 N = N", "bait 1 0 1 N = N",
+        Asked.on(hours(1)).asks("bait 0 0 1 N = 0", "bait 0 0 1 0 = N", "bait 0 1 1 N = N", "bait 0 -1 1 N = N", "bait 0 MAX 1 N = N", "bait 0 MIN 1 N = N", "bait 0 32 1 N = N", "bait 1 0 1 N = N",
                 "bait -1 0 1 N = N", "bait 0 0 MAX N = N", "bait 0 0 MIN N = N");
         Asked.on("").asks("bait 0 0 1 N = N");
         new Asked().asks("bait 0 0 1 N = N");
@@ -177,6 +194,12 @@ public final class ReaderBoundsTest {
         // whatever the LAMP is, and is LIKED
         Asked.on(hours(9) + "lamp 1;likes 0 0;").asks("order 0 9 true = 1");
         new Asked().asks("order 0 9 true = N");
+    }
+
+    private static void orderAnswers() {
+        Sentence.says("ORDER of h HOURS: how many, or (which) which (bits). NONE: another h, or there is none such.");
+        Asked.on("").library(hours(1, 1)).asks("order 0 0 false = 0", "order 0 0 true = 0", "order 0 -1 false = N", "order 1 1 false = 1", "order 1 2 true = 3", "order 1 72 false = 2", "order 1 73 false = N",
+                "order 2 1 false = N", "order 2 1 true = N", "order MAX 1 true = N", "order MIN 1 false = N");
     }
 
     private static void orderTies() {
@@ -206,6 +229,12 @@ public final class ReaderBoundsTest {
         Asked.on(hours(9) + "lamp 1;likes 0 0;").asks("game 0 9 false = 1", "game 0 8 false = 0");
     }
 
+    private static void gameAnswers() {
+        Sentence.says("GAME of h HOURS, or (first) which CHAPTER (NONE). -2: another h, or there is none such.");
+        Asked.on("").library(hours(2)).asks("game 0 0 false = 0", "game 0 0 true = N", "game 0 -1 false = -2", "game 1 1 false = 0", "game 1 1 true = N", "game 1 2 false = 1", "game 1 2 true = 0", "game 1 72 true = 0",
+                "game 1 73 true = -2", "game 2 2 false = -2", "game 2 2 true = -2", "game MAX 2 true = -2", "game MIN 2 false = -2");
+    }
+
     private static void gameFirst() {
         Sentence.says("1, if the first can win, else 0; which CHAPTER first, the least by which he does (none).");
         Asked.on(hours(1, 1)).asks("game 0 0 true = N", "game 0 1 true = 0", "game 0 2 true = N", "game 0 1 false = 1", "game 0 2 false = 0");
@@ -217,6 +246,19 @@ public final class ReaderBoundsTest {
 
     private static void colds(Asked x, String call, long top, long bottom) {
         x.asks("colds 0 " + call + " false = " + top, "colds 0 " + call + " true = " + bottom);
+    }
+
+    private static void coldsEnds() {
+        Sentence.says("COLDS of some CHAPTERS (bits), n days, 1 .. 9, p, 0 .. 10:");
+        Asked x = Asked.on(hours(1));
+        for (int p = 0; p <= 10; p++) {
+            // one day alone: by p of ten he has a cold
+            int[][] well = {{1, 1}, {9, 10}, {4, 5}, {7, 10}, {3, 5}, {1, 2}, {2, 5}, {3, 10}, {1, 5}, {1, 10}, {0, 1}};
+            colds(x, "1 1 " + p, well[p][0], well[p][1]);
+        }
+        for (int n = 1; n <= 9; n++) {
+            colds(x, "1 " + n + " 5", (1 << n) - 1, 1 << n);
+        }
     }
 
     private static void coldsLikely() {
@@ -291,6 +333,12 @@ public final class ReaderBoundsTest {
         // by what he LIKES, not as few as could be: 4 and 2 come ahead of 3 and 3
         Asked.on("chapter 4 0;chapter 3 1;chapter 3 1;chapter 2 2;likes 0 9;likes 1 8;likes 2 7;").asks("shelf 0 0 = 2");
         Asked.on("chapter 4 0;chapter 3 1;chapter 3 2;chapter 2 3;likes 0 8;likes 1 9;likes 2 7;likes 3 8;").asks("shelf 0 0 = 3", "shelf 0 4 = 2");
+    }
+
+    private static void finishAgain() {
+        Sentence.says("FINISH: the fewest days, 99 at most, in which he has READ all CHAPTERS HIMSELF");
+        // not by what was asked ahead
+        Asked.on(LONG + "likes 0 9;lamp 9;").library("").asks("shelf 0 0 = 8", "shelf 1 0 = 0", "shelf 0 1 = 0", "shelf 1 1 = 0", "shelf 0 0 = 8");
     }
 
     private static void dull() {
@@ -392,6 +440,8 @@ public final class ReaderBoundsTest {
     }
 
     private static void shelfAnswers() {
+        Sentence.says("What 0: FINISH (NONE: not in 99), 1: DULL (bits), 2: KEYSTONE (NONE: no CHAPTERS), 3: under how many (NONE as well), ");
+        Asked.on("").library(hours(1, 1) + "leans 1 0;likes 0 1;").asks("shelf 0 0 = 0", "shelf 0 1 = 0", "shelf 0 2 = N", "shelf 0 3 = N", "shelf 1 0 = N", "shelf 1 1 = 2", "shelf 1 2 = 0", "shelf 1 3 = 1");
         Sentence.says("4: SHELF (NONE: a CHAPTER takes more than LAMP), 5: ROWS, 6: HALVES, how much, 7: the one (bits), 10 + c: UNDER a CHAPTER (bits). "
                 + "-2: there is none such (of either), or for another what.");
         Asked.on(hours(1, 1)).asks("shelf 0 8 = -2", "shelf 0 9 = -2", "shelf 0 10 = 0", "shelf 0 11 = 0", "shelf 0 12 = -2", "shelf 0 -1 = -2", "shelf 0 MAX = -2", "shelf 0 MIN = -2",
@@ -434,7 +484,9 @@ public final class ReaderBoundsTest {
         parts(hours(5), 4, 5, 0, 0, 0, 0);
         parts(hours(9, 1, 1), 3, 9, 0, 0, 1);
         parts(hours(1, 1, 9), 3, 9, 0, 0, 2);
-        Sentence.says("with which CHAPTER the k-th part begins (CHAPTERS, if none is left).");
+        Sentence.says("LESSONS of n: how much (k NONE), or with which CHAPTER the k-th part begins (CHAPTERS, if none is left). NONE: no such part, another n, or there is none such.");
+        Asked.on(hours(4, 4)).asks("lessons 0 1 N = 8", "lessons 0 1 0 = 0", "lessons 0 1 1 = N", "lessons 0 2 1 = 1", "lessons 0 2 2 = N", "lessons 0 4 3 = 1", "lessons 0 4 4 = N", "lessons 0 5 4 = N", "lessons 0 0 N = N",
+                "lessons 1 1 0 = N", "lessons MAX 1 N = N", "lessons MIN 1 N = N");
         parts("", 1, 0, 0);
         parts("", 4, 0, 0, 0, 0, 0);
     }
@@ -462,6 +514,10 @@ public final class ReaderBoundsTest {
     }
 
     private static void feastRows() {
+        Sentence.says("FEAST of n days, m pies: how many (k NONE), or the TOPIC of the k-th pie. NONE: not so many, other numbers, or there is none such.");
+        feastRow(Asked.on("chapter 1 1;likes 1 0;"), "feast 0 20 3", 1, 0, 0, 1);
+        feastRow(Asked.on("chapter 1 1;likes 1 0;"), "feast 0 20 0", 0);
+        Asked.on("").asks("feast 1 1 1 0 = N", "feast MAX 1 1 N = N", "feast MIN 1 1 N = N", "feast 0 MIN 1 N = N");
         Sentence.says("how many; of which TOPICS m pies are, the first row by numbers, rising.");
         Asked x = Asked.on("chapter 1 1;chapter 1 1;chapter 1 1;chapter 1 1;chapter 1 4;chapter 1 4;chapter 1 4;likes 1 0;likes 4 0;lamp 12;");
         feastRow(x, "feast 0 1 0", 0);
@@ -476,6 +532,14 @@ public final class ReaderBoundsTest {
         feastRow(Asked.on("chapter 5 0;chapter 2 1;chapter 2 1;likes 0 4;likes 1 5;lamp 5;"), "feast 0 1 2", 2, 0, 1);
         feastRow(Asked.on("chapter 5 0;chapter 2 1;chapter 2 1;likes 0 4;likes 1 5;lamp 5;"), "feast 0 1 1", 2, 1);
         // all do
+        Asked harm = Asked.on("chapter 9 2;chapter 1 0;chapter 1 5;chapter 9 5;chapter 3 3;chapter 2 4;chapter 9 2;chapter 2 1;leans 2 0;leans 2 1;"
+                + "likes 0 2;likes 1 2;likes 2 3;likes 3 1;likes 4 1;likes 5 2;lamp 9;");
+        harm.asks("himself 0 2 N = 6", "sweet 0 0 2 = -1");
+        for (int t = 0; t < 6; t++) {
+            Sentence.due("harm by a pie of topic " + t, harm.x.sweet(0, t, 2) < 0 ? 1 : 0, 1);
+        }
+        feastRow(harm, "feast 0 2 0", 6);
+        feastRow(harm, "feast 0 2 1", 5, 0);
         feastRow(Asked.on("chapter 6 0;chapter 1 1;chapter 6 1;chapter 6 2;chapter 6 3;chapter 6 4;chapter 6 5;likes 0 5;likes 1 5;"), "feast 0 1 1", 1, 0);
     }
 
@@ -515,6 +579,8 @@ public final class ReaderBoundsTest {
         row(Asked.on(hours(1, 1, 1, 1, 1) + "leans 1 0;leans 2 0;leans 3 2;leans 4 3;"), "ladder 0", 0, 2, 3, 4);
         row(Asked.on(hours(1, 1, 1, 1, 1) + "leans 2 0;leans 2 1;leans 3 2;leans 4 2;"), "ladder 0", 0, 2, 3);
         row(Asked.on(hours(1, 1, 1) + "leans 1 0;leans 2 1;leans 2 0;"), "ladder 0", 0, 1, 2);
+        // a longer one that was asked for ahead is forgotten
+        Asked.on(hours(1, 1, 1) + "leans 1 0;leans 2 1;").library(hours(1, 1)).asks("ladder 0 N = 3", "ladder 1 N = 1", "ladder 1 0 = 0", "ladder 1 1 = N", "ladder 0 2 = 2");
     }
 
     // ---- DIM, BAN, SHARE
@@ -530,7 +596,9 @@ public final class ReaderBoundsTest {
         Asked.on("").asks("dim 0 1 = 1", "dim 0 20 = 1", "dim 0 0 = N", "dim 0 21 = N");
         // as SHELF is: each behind all it leans on
         Asked.on(hours(4, 4, 2, 2) + "leans 1 0;leans 2 1;leans 3 2;").asks("dim 0 2 = 8", "dim 0 3 = 4");
+        Sentence.says("DIM of n days. NONE: by none, another n, or there is none such.");
         new Asked().asks("dim 0 1 = N");
+        Asked.on(hours(9, 9)).asks("dim 0 1 = N", "dim 0 2 = 9", "dim 0 21 = N", "dim 0 0 = N", "dim 1 2 = N", "dim MAX 2 = N", "dim MIN 2 = N");
     }
 
     private static void ban(String library, int chapter, int days) {
@@ -579,6 +647,8 @@ public final class ReaderBoundsTest {
         share(x, Integer.MAX_VALUE, NONE, NONE);
         share(x, Integer.MIN_VALUE, NONE, NONE);
         share(Asked.on(LONG), 0, 1, 1);
+        share(Asked.on("chapter 9 5;"), 5, 1, 1);
+        share(Asked.on("chapter 9 5;"), 4, 0, 1);
         share(Asked.on(LONG), 5, 0, 1);
         share(Asked.on("chapter 1 5;" + times(7, "chapter 9 0;")), 5, 1, 64);
         share(Asked.on("chapter 4 5;chapter 9 1;"), 1, 9, 13);

@@ -27,6 +27,7 @@ public final class TextBoundsTest {
         newObject();
         feed();
         feedRefused();
+        tapeFull();
         end();
         textTaken();
         textInPlace();
@@ -112,6 +113,10 @@ public final class TextBoundsTest {
         bad(0, 3, times(6, "person 1;") + "^person 1;");
         bad(0, 2, "person ^0;");
         bad(0, 2, "person ^10;");
+        Sentence.says("(chapter: HOURS, TOPIC; leans: a CHAPTER, 0 .. 7, on which; likes: a TOPIC, how much; person: MEMORY; hears: a PERSON, 0 .. 5, another one)");
+        // in this order
+        Asked.on("chapter 9 5;likes 4 8;person 7;person 6;chapter 1 0;leans 1 0;hears 1 0;")
+                .asks("library 0 10 = 9", "library 0 20 = 5", "library 0 44 = 8", "library 0 50 = 7", "library 0 31 = 1", "library 0 30 = 0", "library 0 61 = 1", "library 0 60 = 0");
         Sentence.says("hears: a PERSON, 0 .. 5, another one");
         bad(0, 2, "hears ^6 0;");
         bad(0, 2, "hears 0 ^6;");
@@ -464,6 +469,16 @@ public final class TextBoundsTest {
         y.asks("feed 1 2 3 4 5 = N", "fault 0 = 2", "fault 1 = 5", "end 600 = 600", "end 601 = N");
     }
 
+    private static void tapeFull() {
+        Sentence.says("THE TAPE has at most 600 bytes.");
+        Asked x = new Asked().tape(times(588, " ") + "lamp 3;lamp4");
+        x.asks("end 600 = 600", "feed 0 0 0 0 0 = N", "end 599 = 599", "text 0 N = N", "fault 0 = 1", "fault 1 = 599");
+        Asked y = new Asked().tape(times(50, "chapter 1 0;"));
+        y.asks("end 600 = 600", "text 0 N = N", "fault 0 = 3", "fault 1 = 96");
+        Asked z = new Asked().tape(times(75, "lamp 10;"));
+        z.asks("end 600 = 600", "text 0 N = 0", "library 0 2 = 10");
+    }
+
     private static void end() {
         Sentence.says("The tape has its first n bytes alone: n. NONE if it has not so many, or n is below 0.");
         new Asked().asks("end 0 = 0", "end 1 = N", "end -1 = N", "end MIN = N", "end MAX = N");
@@ -534,6 +549,10 @@ public final class TextBoundsTest {
     }
 
     private static void library() {
+        Sentence.says("Of a LIBRARY, what 0: CHAPTERS, 1: PEOPLE, 2: LAMP, ");
+        Asked.on("").asks("library 0 0 = 0", "library 0 1 = 0", "library 0 2 = 6", "library 0 3 = N");
+        Asked.on("person 1;lamp 12;").asks("library 0 0 = 0", "library 0 1 = 1", "library 0 2 = 12");
+        Asked.on(times(8, "chapter 1 0;")).asks("library 0 0 = 8", "library 0 1 = 0");
         Sentence.says("10 + c, 20 + c, 30 + c: HOURS, TOPIC of a CHAPTER, on which it LEANS (bits), 40 + t: how much a TOPIC is LIKED, "
                 + "50 + p, 60 + p: MEMORY of a PERSON, whom he HEARS (bits). NONE: there is none such (of any), or for another what.");
         String full = "chapter 1 5;chapter 2 4;chapter 3 3;chapter 4 2;chapter 5 1;chapter 6 0;chapter 7 5;chapter 8 4;leans 7 6;leans 7 5;leans 6 0;"

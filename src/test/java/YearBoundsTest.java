@@ -222,6 +222,14 @@ public final class YearBoundsTest {
                 "state 0 0 MAX 0 = -2", "state 0 0 MIN 0 = -2");
         live("", "").asks("state 0 0 0 0 = 0", "state 0 0 1 0 = -2");
         live("", times(40, "day;")).asks("state 0 0 40 0 = 40", "state 0 0 41 0 = -2");
+        Sentence.says("Of a STATE, what 0: the day, 1, 2: READ, SKIPPED ones (bits), 3: HOURS left, 4: 1 if he has a cold, else 0, 5: CHAPTERS that MAY be read (bits), ");
+        Asked each = live("chapter 2 0;chapter 1 0;chapter 1 0;chapter 1 0;leans 3 0;", "read 0;skip 2;cold;day;");
+        int[][] behind = {{0, 0, 0, 6, 0, 7, -2}, {0, 1, 0, 4, 0, 14, -2}, {0, 1, 4, 4, 0, 10, -2}, {0, 1, 4, 4, 1, 10, -2}, {1, 1, 4, 6, 0, 10, -2}, {-2, -2, -2, -2, -2, -2, -2}};
+        for (int n = 0; n <= 5; n++) {
+            for (int what = 0; what <= 6; what++) {
+                each.asks("state 0 0 " + n + " " + what + " = " + behind[n][what]);
+            }
+        }
         Sentence.says("10 + t: how much a TOPIC is LIKED, 20 + p: what a PERSON KNOWS (bits), 100 + 8 p + c: how many days a PERSON has KNOWN a CHAPTER (NONE: he does not). "
                 + "-2: there is no such STATE, or for another what.");
         Asked full = live(times(8, "chapter 1 0;") + "likes 0 9;lamp 12;" + times(6, "person 9;"), times(1, "read 7;tell 7 5;day;"));
@@ -324,6 +332,9 @@ public final class YearBoundsTest {
     }
 
     private static void drawn() {
+        Sentence.says("a number below 8: 0, 1: read, 2: skip, a CHAPTER, below CHAPTERS; 3: pie, a TOPIC, below 6; 4, 5: tell, a CHAPTER, a PERSON, below PEOPLE; 6: cold; 7: day; each, if it may.");
+        drawnAsYear(times(8, "chapter 1 0;") + "likes 0 9;lamp 12;" + times(6, "person 9;"), 8, 6, 4242, 60);
+        drawnAsYear("chapter 6 0;chapter 6 1;chapter 6 2;leans 1 0;leans 2 1;person 1;", 3, 1, -4242, 60);
         Sentence.says("x becomes x * 1103515245 + 12345 (of 32 bits), it is x shifted right by 16 without sign, remainder by n: n times, 0 to 60");
         String library = "chapter 1 0;chapter 2 1;chapter 3 2;leans 2 0;person 2;person 3;hears 1 0;";
         for (int seed : new int[] {0, 1, -1, 12345, 65535, 65536, Integer.MAX_VALUE, Integer.MIN_VALUE, -12345, 1103515245, -1103515245}) {
