@@ -21,6 +21,10 @@ final class Asked {
         return face;
     }
 
+    static int takes(String name) {
+        return FACE.get(name).getParameterCount();
+    }
+
     static Asked on(String library) {
         return new Asked().library(library);
     }

@@ -101,7 +101,7 @@ public final class PeopleBoundsTest {
     }
 
     private static void fitsNumbers() {
-        Sentence.says("one PERSON was told something, days ago, 0 .. 9, and it was told on as NEWS: PEOPLE and days (10 times the PERSON, and days) FIT, if each FACT is so now: how many; the k-th, by numbers");
+        Sentence.says("By a LOG in a LIBRARY: one PERSON was told something, days ago, 0 .. 9, and it was told on as NEWS: PEOPLE and days (10 times the PERSON, and days) FIT, if each FACT is so now: how many; the k-th, by numbers");
         int[] all = new int[60];
         for (int k = 0; k < 60; k++) {
             all[k] = k;
@@ -179,7 +179,7 @@ public final class PeopleBoundsTest {
     }
 
     private static void odds() {
-        Sentence.says("ODDS of a PERSON: of all that FIT, all being alike, how likely he KNOWS it, a fraction in least terms");
+        Sentence.says("By a LOG in a LIBRARY: ODDS of a PERSON: of all that FIT, all being alike, how likely he KNOWS it, a fraction in least terms");
         Asked row = Asked.on(ROW).log("knows 0;");
         oddsAre(row, 0, 1, 1);
         oddsAre(row, 1, 9, 10);
@@ -191,7 +191,7 @@ public final class PeopleBoundsTest {
         oddsAre(Asked.on("person 1;").log(""), 0, 1, 1);
         oddsAre(Asked.on(ROW).log("knows 0;not 1;"), 0, 1, 1);
         oddsAre(Asked.on(ROW).log("knows 0;not 1;"), 5, 0, 1);
-        Sentence.says("NONE: nothing FITS, as -2 of fits(), or there is none such (of any).");
+        Sentence.says("ODDS of a PERSON, N, or (under) D. NONE: nothing FITS, as -2 of fits(), or there is none such (of any).");
         oddsAre(row, 6, NONE, NONE);
         oddsAre(row, -1, NONE, NONE);
         oddsAre(row, 32, NONE, NONE);

@@ -42,6 +42,7 @@ public final class ReaderBoundsTest {
         ban();
         share();
         waits();
+        asTold();
         Sentence.finish("ReaderBoundsTest");
     }
 
@@ -130,10 +131,21 @@ public final class ReaderBoundsTest {
         Asked.on(hours(1)).library(hours(1, 1)).asks("himself 1 1 N = 2", "himself 0 1 N = 1", "himself 0 1 1 = N", "himself 1 1 1 = 1");
     }
 
+    private static void asTold() {
+        Sentence.says("6. (Of a LIBRARY as told.)");
+        String[] rows = {"shelf 0 0 = N", "shelf 0 1 = 4", "shelf 0 2 = 0", "shelf 0 3 = 1", "shelf 0 4 = 2", "shelf 0 5 = 3", "shelf 0 6 = 2", "shelf 0 7 = 1", "shelf 0 12 = 1",
+            "lessons 0 2 N = 4", "lessons 0 2 1 = 1", "feast 0 2 1 N = 3", "feast 0 2 1 0 = 0", "sweet 0 0 2 = 1", "ladder 0 N = 2", "ladder 0 1 = 2", "dim 0 2 = 4", "ban 0 false = 0", "ban 0 true = 1",
+            "share 0 0 false = 1", "rumour 0 0 1 = 2", "rumour 0 0 N = 3", "between 0 0 1 = 1", "between 0 1 0 = N", "centre 0 false = 0", "centre 0 true = 1", "loss 0 0 false = 1", "loss 0 0 true = 0",
+            "waits 0 7 0 false = 2"};
+        Asked x = Asked.on(hours(2, 2, 2) + "leans 2 0;likes 0 2;lamp 5;person 1;person 2;hears 1 0;").asks(rows);
+        // whatever was done in a YEAR, or DRAWN
+        x.year("read 1;skip 0;pie 0;pie 0;tell 1 0;cold;").asks("till 0 0 = 6").asks(rows).asks("state 0 0 6 2 = 1", "after 0 0 0 = 2", "drawn 0 1 60 6 = -2").asks(rows);
+    }
+
     // ---- BAIT
 
     private static void baitFewest() {
-        Sentence.says("the fewest pies, 4 at most, all ahead of day 0, by which he has READ it himself in n days");
+        Sentence.says("BAIT of a CHAPTER, n days, 0 .. 20: the fewest pies, 4 at most, all ahead of day 0, by which he has READ it himself in n days");
         String rivals = "chapter 5 0;chapter 5 1;lamp 5;";
         row(Asked.on(rivals + "likes 0 4;likes 1 5;"), "bait 0 1 1");
         row(Asked.on(rivals + "likes 0 5;likes 1 4;"), "bait 0 1 1", 1);
@@ -550,7 +562,7 @@ public final class ReaderBoundsTest {
         Asked.on("chapter 1 3;chapter 1 3;chapter 1 3;likes 3 0;").asks("sweet 0 3 1 = 2", "sweet 0 3 20 = 2");
         Asked.on("chapter 1 3;chapter 1 3;chapter 1 3;likes 3 2;").asks("sweet 0 3 1 = 1");
         Asked.on("chapter 9 0;chapter 1 1;chapter 1 1;chapter 1 1;chapter 1 1;chapter 1 1;chapter 1 1;chapter 1 1;likes 0 8;likes 1 8;lamp 9;").asks("sweet 0 0 1 = -6", "sweet 0 1 1 = 0");
-        Sentence.says("-99: another n, no such TOPIC, or there is none such.");
+        Sentence.says("SWEET of a TOPIC, n days. -99: another n, no such TOPIC, or there is none such.");
         x.asks("sweet 0 6 1 = -99", "sweet 0 -1 1 = -99", "sweet 0 MAX 1 = -99", "sweet 0 MIN 1 = -99", "sweet 0 0 21 = -99", "sweet 0 0 -1 = -99", "sweet 0 0 MAX = -99", "sweet 1 0 1 = -99",
                 "sweet -1 0 1 = -99");
         Asked.on("").asks("sweet 0 0 20 = 0", "sweet 0 5 0 = 0", "sweet 0 6 0 = -99");
@@ -618,7 +630,7 @@ public final class ReaderBoundsTest {
         ban(hours(3, 3, 3, 3) + "leans 1 0;leans 2 1;leans 3 2;lamp 3;", 0, 0);
         ban(hours(3, 3, 3, 3) + "leans 3 1;lamp 3;", 1, 2);
         ban(LONG + "leans 7 6;lamp 9;", 6, 6);
-        Sentence.says("the CHAPTER (NONE: no CHAPTERS), or (days) how many days (NONE: a CHAPTER that is left takes more than LAMP by each, or no CHAPTERS). -2: there is none such.");
+        Sentence.says("BAN: the CHAPTER (NONE: no CHAPTERS), or (days) how many days (NONE: a CHAPTER that is left takes more than LAMP by each, or no CHAPTERS). -2: there is none such.");
         ban("", NONE, NONE);
         // one that is too long is left but by its own ban
         ban(hours(1, 9, 1) + "lamp 8;", 1, 1);
@@ -652,7 +664,7 @@ public final class ReaderBoundsTest {
         share(Asked.on(LONG), 5, 0, 1);
         share(Asked.on("chapter 1 5;" + times(7, "chapter 9 0;")), 5, 1, 64);
         share(Asked.on("chapter 4 5;chapter 9 1;"), 1, 9, 13);
-        Sentence.says("NONE: no CHAPTERS, no such TOPIC, or there is none such.");
+        Sentence.says("SHARE of a TOPIC, N, or (under) D. NONE: no CHAPTERS, no such TOPIC, or there is none such.");
         share(Asked.on(""), 0, NONE, NONE);
         share(Asked.on("likes 0 9;"), 0, NONE, NONE);
         share(new Asked(), 0, NONE, NONE);

@@ -2,10 +2,9 @@ import java.io.IOException;
 import java.nio.file.Files;
 import java.nio.file.Path;
 
-/** The sentence of the document that is held against the class just now, and how many answers were not as due. */
+/** The sentence of the document, or of LANGUAGE.md, that is held against the class just now, and how many answers were not as due. */
 final class Sentence {
-    private static final Path DOCUMENT = Path.of("../shared/DOC.md");
-    private static final String WORDS = document();
+    private static final String WORDS = words("../shared/DOC.md") + words("../shared/LANGUAGE.md");
     private static String now = "";
     private static int sentences = 0;
     private static int asked = 0;
@@ -14,9 +13,9 @@ final class Sentence {
     private Sentence() {
     }
 
-    private static String document() {
+    private static String words(String file) {
         try {
-            return Files.exists(DOCUMENT) ? oneLine(Files.readString(DOCUMENT)) : "";
+            return Files.exists(Path.of(file)) ? oneLine(Files.readString(Path.of(file))) : "";
         } catch (IOException e) {
             return "";
         }
@@ -26,13 +25,13 @@ final class Sentence {
         return text.replaceAll("\\s+", " ");
     }
 
-    /** What follows tests these words; they must stand in the document as they are, so that none is tested that it does not say. */
+    /** What follows tests these words; they must stand in one of the two as they are, so that none is tested that is not said. */
     static void says(String words) {
         now = words;
         sentences++;
         if (!WORDS.isEmpty() && !WORDS.contains(oneLine(words))) {
             wrong++;
-            System.out.println("the document does not say: " + words);
+            System.out.println("nobody says: " + words);
         }
     }
 

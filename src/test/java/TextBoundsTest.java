@@ -252,7 +252,7 @@ public final class TextBoundsTest {
         everyForm(0, TWO);
         Sentence.says("A YEAR's text: {(('read' | 'skip' | 'pie') NUMBER | 'tell' NUMBER NUMBER | 'cold' | 'day') ';'}");
         everyForm(1, "day;");
-        Sentence.says("A LOG's text: {('knows' | 'not') NUMBER ';'}");
+        Sentence.says("A LOG's text: {('knows' | 'not') NUMBER ';'} (a PERSON).");
         everyForm(2, "not 1;");
         for (int sort = 0; sort < 3; sort++) {
             bad(sort, 1, "^;");
@@ -334,6 +334,11 @@ public final class TextBoundsTest {
         bad(0, 1, "lamp 13^");
         bad(1, 1, "read 8;" + times(40, "day;") + "read7^");
         bad(2, 1, times(9, "not 6;") + "^and");
+        // and of several the first, though a line might begin with it
+        bad(0, 1, "lamp ^lamp 3; x");
+        bad(0, 1, "likes 1 ^likes 1 2; lamp 3; lamp");
+        bad(1, 1, "read ^day; pie;");
+        bad(2, 1, "knows 1 ^not 1; 5");
         // else the first by place
         bad(0, 2, "chapter ^0 6;chapter 1 0;");
         bad(0, 2, "chapter 1 ^6;chapter 0 6;");
@@ -431,7 +436,7 @@ public final class TextBoundsTest {
     }
 
     private static void feed() {
-        Sentence.says("twenty bytes come behind it, of each number the highest first: how many it has.");
+        Sentence.says("The tape: twenty bytes come behind it, of each number the highest first: how many it has.");
         new Asked().asks("feed 0x6c616d70 0x20202020 0x20202020 0x20202020 0x20202020 = 20", "feed 0x2020200a 0x0a0a0a0a 0x20202020 0x20202020 0x31303b20 = 40",
                 "end 39 = 39", "text 0 N = 0", "library 0 2 = 10");
         // numbers below 0: bytes from 128 on

@@ -335,7 +335,7 @@ public final class YearBoundsTest {
         Sentence.says("a number below 8: 0, 1: read, 2: skip, a CHAPTER, below CHAPTERS; 3: pie, a TOPIC, below 6; 4, 5: tell, a CHAPTER, a PERSON, below PEOPLE; 6: cold; 7: day; each, if it may.");
         drawnAsYear(times(8, "chapter 1 0;") + "likes 0 9;lamp 12;" + times(6, "person 9;"), 8, 6, 4242, 60);
         drawnAsYear("chapter 6 0;chapter 6 1;chapter 6 2;leans 1 0;leans 2 1;person 1;", 3, 1, -4242, 60);
-        Sentence.says("x becomes x * 1103515245 + 12345 (of 32 bits), it is x shifted right by 16 without sign, remainder by n: n times, 0 to 60");
+        Sentence.says("DRAWN by a SEED, x; a number below n is drawn: x becomes x * 1103515245 + 12345 (of 32 bits), it is x shifted right by 16 without sign, remainder by n: n times, 0 to 60");
         String library = "chapter 1 0;chapter 2 1;chapter 3 2;leans 2 0;person 2;person 3;hears 1 0;";
         for (int seed : new int[] {0, 1, -1, 12345, 65535, 65536, Integer.MAX_VALUE, Integer.MIN_VALUE, -12345, 1103515245, -1103515245}) {
             drawnAsYear(library, 3, 2, seed, 60);
