@@ -203,6 +203,9 @@ public final class PeopleBoundsTest {
         oddsAre(Asked.on("person 1;"), 0, NONE, NONE);
         oddsAre(new Asked().log(""), 0, NONE, NONE);
         row.asks("odds 1 0 0 false = N", "odds 0 1 0 true = N", "odds -1 0 0 false = N", "odds 0 -1 0 true = N");
+        // each LOG in each LIBRARY
+        Asked two = Asked.on("person 1;").library(ROW).log("knows 0;").log("knows 0;not 5;");
+        two.asks("odds 0 0 0 false = 1", "odds 0 1 0 false = N", "odds 1 0 1 false = 9", "odds 1 0 1 true = 10", "odds 1 1 1 false = 4", "odds 1 1 1 true = 5", "odds 0 0 1 false = N");
     }
 
     private static void ago(Asked x, int least, int most) {
@@ -226,6 +229,7 @@ public final class PeopleBoundsTest {
         ago(Asked.on("person 1;"), NONE, NONE);
         ago(new Asked().log(""), NONE, NONE);
         Asked.on(ROW).log("").asks("ago 1 0 false = N", "ago 0 1 true = N", "ago -1 0 false = N", "ago 0 -1 true = N");
+        Asked.on("person 1;").library(ROW).log("knows 0;").log("knows 5;knows 3;").asks("ago 0 0 false = 0", "ago 0 0 true = 9", "ago 0 1 false = N", "ago 1 0 true = 9", "ago 1 1 false = 2", "ago 1 1 true = 9");
     }
 
     // ---- RUMOUR and what NEWS do

@@ -205,6 +205,7 @@ public final class ReaderBoundsTest {
         Asked.on("").asks("order 0 0 false = 0", "order 0 72 true = 0", "order 0 73 false = N");
         // whatever the LAMP is, and is LIKED
         Asked.on(hours(9) + "lamp 1;likes 0 0;").asks("order 0 9 true = 1");
+        Asked.on(hours(9, 1, 1) + "leans 1 0;leans 2 1;lamp 1;").asks("order 0 8 true = 0", "order 0 9 true = 1", "order 0 10 true = 3");
         new Asked().asks("order 0 9 true = N");
     }
 
@@ -395,6 +396,7 @@ public final class ReaderBoundsTest {
         Asked.on(hours(9) + "lamp 9;").asks("shelf 0 4 = 1");
         Asked.on(hours(9) + "lamp 8;").asks("shelf 0 4 = N");
         Asked.on(hours(1, 9, 1) + "lamp 8;").asks("shelf 0 4 = N");
+        Asked.on(hours(1, 1, 1, 9) + "lamp 2;").asks("shelf 0 4 = N", "dim 0 20 = 9", "ban 0 false = 3", "ban 0 true = 2");
         Asked.on(LONG + "lamp 12;").asks("shelf 0 4 = 8");
         Asked.on(SHORT + "lamp 8;").asks("shelf 0 4 = 1");
         Asked.on(SHORT + "lamp 7;").asks("shelf 0 4 = 2");

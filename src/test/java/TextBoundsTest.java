@@ -630,6 +630,12 @@ public final class TextBoundsTest {
         // the image is as it was, as often as it is asked for, with all bytes of its tape
         x.asks("again 1 = true", "count 0 = 1", "end 8 = N", "end 3 = 3", "again 1 = true", "end 7 = 7", "text 0 0 = 0", "library 0 2 = 4", "again 1 = true", "library 0 2 = 9");
         Asked y = new Asked().tape(times(593, " ") + "lamp 4;").asks("image 2 = true", "end 0 = 0").tape(times(600, "x")).asks("again 2 = true", "end 600 = 600", "text 0 N = 0", "library 0 2 = 4");
+        // two of each sort
+        Asked z = Asked.on("lamp 1;").library("lamp 2;").year("pie 1;").year("pie 2;").log("knows 1;").log("knows 2;").asks("image 0 = true");
+        for (int sort = 0; sort < 3; sort++) {
+            z.asks("text " + sort + " 0 = 0", "text " + sort + " 1 = 1");
+        }
+        z.asks("library 1 2 = 6", "deed 1 N 0 = 0", "fact 1 N 0 = 0", "again 0 = true", "library 0 2 = 1", "library 1 2 = 2", "deed 0 0 1 = 1", "deed 1 0 1 = 2", "fact 0 0 1 = 1", "fact 1 0 1 = 2");
         // what is asked of an image is not kept in it
         y.asks("image 0 = true", "text 1 N = 0", "again 0 = true", "count 1 = 0");
     }
