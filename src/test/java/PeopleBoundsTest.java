@@ -77,6 +77,8 @@ public final class PeopleBoundsTest {
         tellers(last, 1, 1, 4);
         tellers(last, 9, 1, 4);
         tellers(Asked.on("person 1;person 1;hears 0 1;hears 1 0;"), 1, 1, 1);
+        // the fewest, though two of less numbers would do
+        tellers(Asked.on("person 1;person 1;person 1;hears 0 2;hears 1 2;hears 2 0;"), 1, 1, 4);
         Sentence.says("TELLERS of n days, 0 .. 9: how many, or (who) who (bits). NONE: another n, or there is none such.");
         tellers(row, 10, NONE, NONE);
         tellers(row, -1, NONE, NONE);

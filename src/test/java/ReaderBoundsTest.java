@@ -494,6 +494,9 @@ public final class ReaderBoundsTest {
         parts(hours(3, 3), 2, 3, 0, 1);
         parts(hours(3, 3), 3, 3, 0, 0, 1);
         parts(hours(3, 3), 4, 3, 0, 0, 0, 1);
+        parts(hours(1, 1), 3, 1, 0, 0, 1);
+        parts(hours(1, 1), 4, 1, 0, 0, 0, 1);
+        parts(hours(1, 1, 1), 4, 1, 0, 0, 1, 2);
         parts(hours(5), 2, 5, 0, 0);
         parts(hours(5), 4, 5, 0, 0, 0, 0);
         parts(hours(9, 1, 1), 3, 9, 0, 0, 1);
